@@ -279,6 +279,8 @@ public final class PromisesTest {
         due("greatest, both ways", x.distance(b, a), 10);
         due("the greatest of all", x.distance(up, down), 2000);
         due("greatest behind the end", x.distance(a, up), 1005);
+        due("greatest in the first place", x.distance(row(x, 9, 1, 1), row(x, 1, 2, 3)), 8);
+        due("greatest in the last place", x.distance(row(x, 0, 0, 0, 0, 0, 0, 0, 5), row(x)), 5);
         due("of itself", x.distance(a, a), 0);
     }
 
@@ -707,6 +709,18 @@ public final class PromisesTest {
         due("not in the book", x.cluster(0, 4), -1);
         due("without what held them", x.cluster(6, 4), 6);
         due("without what held them", x.cluster(3, 4), 3);
+        NearBook pair = line(0, 8, 5, 8);
+        due("by 0, like ones", pair.cluster(3, 0), 1);
+        due("by 0, alone", pair.cluster(2, 0), 2);
+        due("all in one", pair.cluster(1, 9), 0);
+        pair.drop(0);
+        pair.drop(2);
+        due("of two", pair.cluster(3, 0), 1);
+        due("the lowest of two", pair.cluster(1, 0), 1);
+        pair.value(3, 0, 9);
+        due("of two apart", pair.cluster(3, 0), 3);
+        due("the lowest of two apart", pair.cluster(1, 0), 1);
+        due("of two not too far apart", pair.cluster(3, 1), 1);
         promise = 21;
         due("like ones", line(5, 5, 5).clusters(0), 1);
         due("of an empty book", new NearBook().clusters(0), 0);
@@ -746,6 +760,7 @@ public final class PromisesTest {
         due("middle(2)", x.middle(2), -1);
         due("middle(-1)", x.middle(-1), -1);
         due("middle(most)", x.middle(MOST), -1);
+        due("the second", line(0, 10, 20).middle(0), 1);
         x.drop(3);
         due("like ones, the lowest", x.middle(0), 2);
         due("like ones, the lowest", x.middle(1), 140);
@@ -783,6 +798,7 @@ public final class PromisesTest {
             due("count(least + " + what + ")", x.count(LEAST + what), -1);
         }
         x.drop(0);
+        due("count(4) of two", x.count(4), 31);
         x.drop(1);
         due("count(4) of one", x.count(4), 0);
         x.drop(2);
@@ -907,11 +923,38 @@ public final class PromisesTest {
         due("middle(1)", x.middle(1), 900);
         promise = 25;
         due("count(4)", x.count(4), 59);
+        fullTable(x);
         promise = 9;
         due("put(60)", x.put(60), false);
         promise = 10;
         due("drop(59)", x.drop(59), true);
         due("put(59)", x.put(59), true);
         due("count(1)", x.count(1), 60);
+    }
+
+    private static void fullTable(NearBook x) {
+        x.kind(5);
+        promise = 7;
+        due("law() of sixty", x.law(), 1);
+        x.tell(58, 59, 1);
+        due("law() of sixty, broken", x.law(), 0);
+        promise = 8;
+        dueThree("the last side", x, 58, 0, 59);
+        for (int t = 0; t < 59; t++) {
+            x.tell(59, t, 100000);
+        }
+        promise = 7;
+        due("law() of sixty, the last apart", x.law(), 1);
+        promise = 19;
+        due("chain(1)", x.chain(1), 100000);
+        promise = 24;
+        due("middle(0)", x.middle(0), 0);
+        due("middle(1)", x.middle(1), 100000);
+        x.drop(59);
+        x.drop(58);
+        due("middle(1) of like ones", x.middle(1), 0);
+        x.put(59);
+        x.put(58);
+        x.kind(2);
     }
 }
