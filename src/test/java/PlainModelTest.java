@@ -11,7 +11,11 @@ import java.util.TreeSet;
  */
 public final class PlainModelTest {
     private static final int RUNS = 1000;
+    // What an object answers after so many calls is free, so no run goes beyond.
     private static final int CALLS = 512;
+    private static final int MOST_ON_A_LINE = 13;
+    private static final int LONGEST_CHANGE = MOST_ON_A_LINE * (MOST_ON_A_LINE - 1) / 2;
+    private static final int LONGEST_ASK = 12;
     private static final int NONE = -1;
     private static final int[] ODD = {
         Integer.MIN_VALUE, Integer.MIN_VALUE + 9, -1001, -1, 0, 1, 2, 3, 7, 8, 9, 10, 59, 60, 61, 69,
@@ -31,7 +35,7 @@ public final class PlainModelTest {
     private PlainModelTest(int run) {
         this.run = run;
         random = new Random(run);
-        mostThings = run % 25 == 0 ? 60 : 2 + random.nextInt(12);
+        mostThings = run % 25 == 0 ? 60 : 2 + random.nextInt(MOST_ON_A_LINE - 1);
         spread = new int[] {1, 2, 4, 30, 1000}[random.nextInt(5)];
         toldSpread = new int[] {0, 1, 3, 50000, 100000}[random.nextInt(5)];
     }
@@ -52,8 +56,11 @@ public final class PlainModelTest {
         for (int i = 0; i < mostThings; i++) {
             calls += build();
         }
-        while (calls < CALLS && wrong < 20) {
+        while (calls + LONGEST_CHANGE <= CALLS && wrong < 20) {
             calls += random.nextInt(3) == 0 ? change() : ask();
+        }
+        while (calls + LONGEST_ASK <= CALLS && wrong < 20) {
+            calls += ask();
         }
         return calls;
     }
@@ -99,7 +106,7 @@ public final class PlainModelTest {
                 due("kind(" + k + ")", one(book.kind(k)), plain.kind(k));
                 return 1;
             case 5:
-                return plain.rows.size() <= 16 ? tellLine() : tellTwoHeaps();
+                return plain.rows.size() <= MOST_ON_A_LINE ? tellLine() : tellTwoHeaps();
             case 6:
                 int out = drawThing();
                 due("drop(" + out + ")", one(book.drop(out)), plain.drop(out));
