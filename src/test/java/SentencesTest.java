@@ -54,9 +54,9 @@ public final class SentencesTest {
         thingIsAllZero();
         thingRefused();
         valueTakenAndRefused();
-        kindTakenAndRefused();
         tellBothWays();
         tellRefused();
+        kindTakenAndRefused();
         distanceRefused();
         lawOfAllThings();
         threeLeast();
@@ -891,26 +891,6 @@ public final class SentencesTest {
         valueAfterDistances();
     }
 
-    private static void kindTakenAndRefused() {
-        says("5: THE KIND at hand: true; false: no such one. (THE BOOK stays.)");
-        NearBook x = line(1, 5, 5);
-        x.drop(1);
-        for (int k = 5; k >= 0; k--) {
-            due("kind(" + k + ")", x.kind(k), true);
-            due("kind(" + k + ") again", x.kind(k), true);
-            due("kind(6)", x.kind(6), false);
-            due("kind(most)", x.kind(MOST), false);
-            for (int below : BELOW_0) {
-                due("kind(" + below + ")", x.kind(below), false);
-            }
-            due("count(2)", x.count(2), k);
-            due("count(1)", x.count(1), 2);
-            due("has(0)", x.has(0), 1);
-            due("has(1)", x.has(1), 0);
-            due("has(2)", x.has(2), 1);
-        }
-    }
-
     /** Each distance is asked before and after a value changes. */
     private static void valueAfterDistances() {
         NearBook x = line(0, 10, 30);
@@ -980,6 +960,26 @@ public final class SentencesTest {
         due("distance(0, 0)", x.distance(0, 0), 0);
         due("tell(0, 1, 0)", x.tell(0, 1, 0), true);
         due("tell(0, 1, 100000)", x.tell(0, 1, 100000), true);
+    }
+
+    private static void kindTakenAndRefused() {
+        says("5: THE KIND at hand: true; false: no such one. (THE BOOK stays.)");
+        NearBook x = line(1, 5, 5);
+        x.drop(1);
+        for (int k = 5; k >= 0; k--) {
+            due("kind(" + k + ")", x.kind(k), true);
+            due("kind(" + k + ") again", x.kind(k), true);
+            due("kind(6)", x.kind(6), false);
+            due("kind(most)", x.kind(MOST), false);
+            for (int below : BELOW_0) {
+                due("kind(" + below + ")", x.kind(below), false);
+            }
+            due("count(2)", x.count(2), k);
+            due("count(1)", x.count(1), 2);
+            due("has(0)", x.has(0), 1);
+            due("has(1)", x.has(1), 0);
+            due("has(2)", x.has(2), 1);
+        }
     }
 
     private static void distanceRefused() {
